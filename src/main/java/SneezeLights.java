@@ -23,6 +23,11 @@ public final class SneezeLights {
   private static final int SHEETS = 4;
   private static final int SHEET_NUMBERS = 40;
 
+  private static final int BY_FEATHER = 0;
+  private static final int BY_SEAT = 1;
+  private static final int BY_KIND = 2;
+  private static final int BY_BOOK = 3;
+
   private static final int FIRST_DRY = 2;
   private static final int FIRST_COLD = 20;
   private static final int NORTH = 1;
@@ -231,55 +236,21 @@ public final class SneezeLights {
     if (street.sneezers == 0) {
       return tell(NONE);
     }
-    int best = 0;
-    int most = -1;
-    for (int i = 0; i < street.sneezers; i++) {
-      startTrial();
-      trial.tickle[i] = MOST;
-      int light = readOfTrial(n);
-      if (light > most) {
-        most = light;
-        best = i;
-      }
-    }
-    return best;
+    return brightest(BY_FEATHER, street.sneezers, 0, n);
   }
 
   public int seat(int sneezer, int n) {
     if (!isThere(sneezer) || !within(n, 1, FARTHEST_BEST)) {
       return tell(BEYOND);
     }
-    int best = 0;
-    int most = -1;
-    for (int place = 0; place < 2 * HOUSES; place++) {
-      startTrial();
-      trial.at[sneezer] = place / 2;
-      trial.faces[sneezer] = place % 2;
-      int light = readOfTrial(n);
-      if (light > most) {
-        most = light;
-        best = place;
-      }
-    }
-    return best;
+    return brightest(BY_SEAT, 2 * HOUSES, sneezer, n);
   }
 
   public int kind(int sneezer, int n) {
     if (!isThere(sneezer) || !within(n, 1, FARTHEST_BEST)) {
       return tell(BEYOND);
     }
-    int best = 0;
-    int most = -1;
-    for (int k = 0; k < KINDS; k++) {
-      startTrial();
-      trial.kinds[sneezer] = k;
-      int light = readOfTrial(n);
-      if (light > most) {
-        most = light;
-        best = k;
-      }
-    }
-    return best;
+    return brightest(BY_KIND, KINDS, sneezer, n);
   }
 
   public int driest(int n, int v) {
@@ -289,7 +260,8 @@ public final class SneezeLights {
     for (int d = MOST_DRY; d >= 0; d--) {
       startTrial();
       trial.dryness = d;
-      if (readOfTrial(n) >= v) {
+      trial.goMinutes(n);
+      if (trial.readOfAll() >= v) {
         return d;
       }
     }
@@ -323,7 +295,8 @@ public final class SneezeLights {
     for (int i = 0; i < street.sneezers; i++) {
       startTrial();
       trial.colds[i] = 0;
-      int light = readOfTrial(n);
+      trial.goMinutes(n);
+      int light = trial.readOfAll();
       if (light < least) {
         least = light;
         dearest = i;
@@ -336,18 +309,7 @@ public final class SneezeLights {
     if (!within(n, 1, FARTHEST_BEST)) {
       return tell(BEYOND);
     }
-    int best = 0;
-    int most = -1;
-    for (int h = 0; h < HOUSES; h++) {
-      startTrial();
-      trial.books[h] = 1 - trial.books[h];
-      int light = readOfTrial(n);
-      if (light > most) {
-        most = light;
-        best = h;
-      }
-    }
-    return best;
+    return brightest(BY_BOOK, HOUSES, 0, n);
   }
 
   // ---- the text
@@ -550,9 +512,40 @@ public final class SneezeLights {
     trial.become(street);
   }
 
-  private int readOfTrial(int n) {
-    trial.goMinutes(n);
-    return trial.readOfAll();
+  /** The least of the choices 0, 1, .. with which READ of all is most n minutes ahead. */
+  private int brightest(int way, int choices, int sneezer, int n) {
+    int best = 0;
+    int most = -1;
+    for (int choice = 0; choice < choices; choice++) {
+      startTrial();
+      choose(way, choice, sneezer);
+      trial.goMinutes(n);
+      int light = trial.readOfAll();
+      if (light > most) {
+        most = light;
+        best = choice;
+      }
+    }
+    return best;
+  }
+
+  /** Makes one choice in the trial; the sneezer stands for nothing where the choice is whom or which house. */
+  private void choose(int way, int choice, int sneezer) {
+    switch (way) {
+      case BY_FEATHER:
+        trial.tickle[choice] = MOST;
+        break;
+      case BY_SEAT:
+        trial.at[sneezer] = choice / 2;
+        trial.faces[sneezer] = choice % 2;
+        break;
+      case BY_KIND:
+        trial.kinds[sneezer] = choice;
+        break;
+      default:
+        trial.books[choice] = 1 - trial.books[choice];
+        break;
+    }
   }
 
   private boolean ticklesJustSo(int s, int sneezer, int kind, int cold) {
@@ -577,7 +570,7 @@ public final class SneezeLights {
   }
 
   private static boolean isHouse(int house) {
-    return within(house, 0, HOUSES - 1);
+    return house >= 0 && house < HOUSES;
   }
 
   private static boolean isKind(int kind) {
@@ -634,7 +627,7 @@ public final class SneezeLights {
     final int[] colds = new int[SNEEZERS];
     final int[] tickle = new int[SNEEZERS];
     final int[] goneOff = new int[SNEEZERS];
-    /** Who went off in the latest minute, as a set. */
+    /** Who went off in the latest minute, as a set: found anew each minute, so never taken over. */
     int wentOff = 0;
 
     Street() {
@@ -656,7 +649,6 @@ public final class SneezeLights {
       System.arraycopy(other.colds, 0, colds, 0, SNEEZERS);
       System.arraycopy(other.tickle, 0, tickle, 0, SNEEZERS);
       System.arraycopy(other.goneOff, 0, goneOff, 0, SNEEZERS);
-      wentOff = other.wentOff;
     }
 
     /** The number of the new one; the caller has seen that there is room. */
@@ -708,7 +700,13 @@ public final class SneezeLights {
     }
 
     int lampsBurning() {
-      return Integer.bitCount(burning());
+      int burn = 0;
+      for (int h = 0; h < HOUSES; h++) {
+        if (lamps[h] > 0) {
+          burn++;
+        }
+      }
+      return burn;
     }
 
     int openBooks() {
@@ -906,7 +904,7 @@ public final class SneezeLights {
 
     /** The byte at a place, or -1 behind the last. */
     int byteAt(int place) {
-      return within(place, 0, length - 1) ? bytes[place] : -1;
+      return place >= 0 && place < length ? bytes[place] : -1;
     }
   }
 
@@ -1075,37 +1073,29 @@ public final class SneezeLights {
         token = END;
       } else if (isLetter(first)) {
         token = WORD;
-        takeLetters(tape);
+        while (end < tape.length && isLetter(tape.byteAt(end))) {
+          end++;
+        }
       } else if (isDigit(first)) {
         token = NUMBER;
-        takeDigits(tape);
+        value = 0;
+        while (end < tape.length && isDigit(tape.byteAt(end))) {
+          // Held at a value that no number may have, so that a long one can't come round to a small one.
+          value = Math.min(TOO_GREAT, 10 * value + tape.byteAt(end) - '0');
+          end++;
+        }
       } else {
         token = first == ';' ? SIGN : OTHER;
         end++;
       }
     }
 
-    private void takeLetters(Tape tape) {
-      while (end < tape.length && isLetter(tape.byteAt(end))) {
-        end++;
-      }
-    }
-
-    private void takeDigits(Tape tape) {
-      value = 0;
-      while (end < tape.length && isDigit(tape.byteAt(end))) {
-        // Held at a value that no number may have, so that a long one can't come round to a small one.
-        value = Math.min(TOO_GREAT, 10 * value + tape.byteAt(end) - '0');
-        end++;
-      }
-    }
-
     private static boolean isLetter(int b) {
-      return within(b, 'a', 'z');
+      return b >= 'a' && b <= 'z';
     }
 
     private static boolean isDigit(int b) {
-      return within(b, '0', '9');
+      return b >= '0' && b <= '9';
     }
   }
 

@@ -12,6 +12,8 @@ public final class BestTest {
     needs();
     dear();
     open();
+    theEnds();
+    withEight();
     againstTryingEach();
     check.end();
   }
@@ -84,6 +86,9 @@ public final class BestTest {
     check.due("20 what is read already counts", x.driest(2, 5), 9);
     check.due("20 and one more", x.driest(2, 6), 2);
     check.due("20 DRY stays", x.now(1), 2);
+    x.set(0, 3, 3);
+    x.set(0, 4, 29);
+    check.due("20 0 is the least", x.driest(2, 6), Check.NONE);
     for (int h = 0; h < 12; h++) {
       x.house(h, 2, 9999);
     }
@@ -150,6 +155,35 @@ public final class BestTest {
     x.set(0, 2, 0);
     check.due("23 the first is needed", x.open(2), 1);
     check.due("23 nothing changes", x.now(3), 4095);
+  }
+
+  /** Where only the last number that is tried will do, and where a COLD of 1 would do otherwise than one of 0. */
+  private static void theEnds() {
+    SneezeLights x = new SneezeLights();
+    Check.winterOf(x, "dry 2;sneezer 7 south cold 42 tickle 62;doctor 4 south cold 81 tickle 52;baron 6 cold 16 tickle 21");
+    check.due("21 99 is enough, 98 is not", x.needs(0, 3, 59), 99);
+    x = new SneezeLights();
+    Check.winterOf(x, "dry 4;sneezer 7 cold 30 tickle 4;doctor 5 cold 36 tickle 69;baron 5 cold 65 tickle 72");
+    check.due("20 0 is enough, 1 is not", x.driest(34, 165), 0);
+    x = new SneezeLights();
+    Check.winterOf(x, "dry 0;sneezer 5 south cold 50 tickle 36;sneezer 4 cold 48 tickle 17");
+    check.due("22 COLD is 0, not 1", x.dear(11), 1);
+  }
+
+  private static void withEight() {
+    SneezeLights x = new SneezeLights();
+    for (int i = 0; i < 8; i++) {
+      x.sneezer(i == 7 ? 1 : 3, 11 - i);
+      x.set(i, 3, i == 7 ? 99 : 0);
+    }
+    check.due("17 of eight the last", x.feather(9), 7);
+    x.set(7, 4, 90);
+    check.due("22 of eight the last", x.dear(9), 7);
+    x.turn(7, 5);
+    check.due("18 a babe's seat", x.seat(7, 9) >= 0 ? 1 : 0, 1);
+    check.due("3 the last of eight", x.houseOf(4, 3), 128);
+    check.due("5 COLD of eight", x.now(5), 99);
+    check.due("36 GONE OFF of eight", x.count(3), 0);
   }
 
   /** What is best, found by doing each on an object of its own. */

@@ -17,6 +17,7 @@ public final class MinutesTest {
     lit();
     goes();
     well();
+    theTwoHundredthMinute();
     check.end();
   }
 
@@ -296,5 +297,31 @@ public final class MinutesTest {
     check.due("16 a baron never", x.well(), Check.NONE);
     x.set(2, 3, 0);
     check.due("16 and without", x.well(), 0);
+  }
+
+  private static SneezeLights told(String winter) {
+    SneezeLights x = new SneezeLights();
+    check.holds("it is a winter: " + winter, Check.winterOf(x, winter) > 0);
+    return x;
+  }
+
+  /** What comes in 200 minutes is told, what comes in 201 is not yet. */
+  private static void theTwoHundredthMinute() {
+    SneezeLights x = told("dry 3;baron 4 south cold 8 tickle 26;bishop 5 south cold 34 tickle 22");
+    check.due("15 in 200", x.goes(0), 200);
+    x = told("dry 6;bishop 6 south cold 69 tickle 5;baron 5 south cold 22 tickle 9");
+    check.due("15 in 201", x.goes(1), Check.NONE);
+    check.due("14 in 201", x.lit(1, 1), Check.NONE);
+    x.minutes(1);
+    check.due("15 a minute later", x.goes(1), 200);
+    check.due("14 a minute later", x.lit(1, 1), 200);
+    x = told("dry 2;baron 7 south cold 39 tickle 2;baron 6 south cold 6 tickle 1;babe 4 cold 99 tickle 39");
+    check.due("14 in 200", x.lit(0, 1), 200);
+    x = told("dry 9;babe 5 south cold 14 tickle 36;doctor 4 south cold 22 tickle 34;child 6 cold 58 tickle 30");
+    check.due("16 in 200", x.well(), 200);
+    x = told("dry 8;doctor 7 cold 34 tickle 72;child 5 cold 62 tickle 11;babe 4 south cold 9 tickle 13");
+    check.due("16 in 201", x.well(), Check.NONE);
+    x.minutes(1);
+    check.due("16 a minute later", x.well(), 200);
   }
 }

@@ -96,6 +96,8 @@ public final class SheetsTest {
       dueNumbers(x, 3, 0, 3, 4, 5);
       dueNumbers(x, 0, 1, 2, 3, 4, 5);
       check.due("29 none at the ends", x.copy(0, 5, 3, 4, 0), 0);
+      check.due("29 a whole one", x.copy(3, 0, 3, 0, 4), 4);
+      dueNumbers(x, 3, 0, 3, 4, 5);
       int[][] wrong = {
         {6, 0, 0}, {0, 5, 0}, {-1, 0, 1}, {0, -1, 1}, {0, 0, -1}, {0, 0, 5}, {3, 0, 3}, {0, 2, 3},
         {Integer.MAX_VALUE, 0, 1}, {0, Integer.MAX_VALUE, 1}, {1, 1, Integer.MAX_VALUE},
@@ -175,7 +177,10 @@ public final class SheetsTest {
     x.sheet(1, 16, 0);
     check.due("31 none", x.book(1, 0), 0);
     x.sheet(2, 64, 40);
+    x.sheet(3, 64, 1);
+    x.write(3, 0, 12345);
     check.due("31 forty", x.book(2, 0), 40);
+    check.due("31 the sheet behind it", x.write(3, 0, 0), 12345);
     for (int i = 0; i < 40; i++) {
       check.due("31 number " + i, x.write(2, i, 0), x.on(0, i, 1));
     }

@@ -117,6 +117,8 @@ public final class StreetTest {
     check.due("5 DRY", x.now(1), 6);
     check.due("5 LAMPS", x.now(2), 1 | 1 << 11);
     check.due("5 BOOKS", x.now(3), 4095 - 4);
+    x.house(0, 1, 0);
+    check.due("5 BOOKS without 0", x.now(3), 4095 - 5);
     check.due("5 COLD of all", x.now(5), 119);
     check.due("5 READ of all", x.now(6), 19998);
     check.due("5 what -1", x.now(-1), Check.BEYOND);

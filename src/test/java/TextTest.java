@@ -55,6 +55,8 @@ public final class TextTest {
     SneezeLights x = new SneezeLights();
     check.due("26 open and shut", Check.winterOf(x, "shut 0;shut 11;open 0"), 3);
     check.due("26 BOOKS", x.now(3), 4095 - 2048);
+    check.due("26 BOOK 11", x.houseOf(11, 1), 0);
+    check.due("26 BOOK 0", x.houseOf(0, 1), 1);
     check.due("26 dry", Check.winterOf(x, "dry 0"), 1);
     check.due("26 DRY", x.now(1), 0);
     check.due("26 dry 9", Check.winterOf(x, "  dry9  "), 1);
@@ -114,10 +116,19 @@ public final class TextTest {
     fault("dry 1 dry 1", 6);
     fault("12", 0);
     fault("wet 1", 0);
+    fault("cry 1", 0);
+    fault("dty 1", 0);
+    fault("drx 1", 0);
+    fault("damp 1 1", 0);
+    fault("lamp", 4);
+    fault("lamp ;", 5);
     fault("Dry 1", 0);
     fault("dry\t1", 3);
     fault("dry -1", 4);
     fault("dry 1.", 5);
+    fault("dry 1\0", 5);
+    fault("dry\0 1", 3);
+    fault("\0", 0);
     fault("open 12", 5);
     fault("open", 4);
     fault("shut 1 1", 7);
