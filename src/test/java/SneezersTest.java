@@ -93,6 +93,8 @@ public final class SneezersTest {
     dueOfEach(oneOfEach(25, 0), 8, 2, 4, 1, 0, 5, 1);
     dueOfEach(oneOfEach(49, 9), 8, 2, 4, 1, 0, 5, 1);
     dueOfEach(oneOfEach(50, 9), 8, 3, 6, 1, 0, 7, 2);
+    dueOfEach(oneOfEach(74, 9), 8, 3, 6, 1, 0, 7, 2);
+    dueOfEach(oneOfEach(75, 9), 8, 4, 8, 1, 0, 9, 2);
     dueOfEach(oneOfEach(99, 0), 8, 4, 8, 1, 0, 9, 2);
   }
 
@@ -100,6 +102,10 @@ public final class SneezersTest {
     dueOfEach(oneOfEach(50, 0), 9, 1, 0, 2, 9, 0, 1);
     dueOfEach(oneOfEach(50, 2), 9, 1, 0, 2, 9, 0, 1);
     dueOfEach(oneOfEach(50, 3), 9, 1, 0, 2, 9, 1, 1);
+    dueOfEach(oneOfEach(50, 5), 9, 1, 0, 2, 9, 1, 1);
+    dueOfEach(oneOfEach(50, 6), 9, 1, 0, 2, 9, 2, 1);
+    dueOfEach(oneOfEach(50, 8), 9, 1, 0, 2, 9, 2, 1);
+    dueOfEach(oneOfEach(50, 9), 9, 1, 0, 2, 9, 3, 1);
     dueOfEach(oneOfEach(0, 9), 9, 1, 0, 2, 9, 3, 1);
   }
 
