@@ -12,6 +12,9 @@ public final class BestEdgesTest {
     driestEnds();
     needsEnds();
     eachIsTried();
+    whatItIsAlready();
+    aDoctor();
+    theFirstHasNoCold();
     check.end();
   }
 
@@ -93,8 +96,10 @@ public final class BestEdgesTest {
     check.due("20 99999 in 8", x.driest(8, 99999), Check.NONE);
     for (int dry = 0; dry <= 9; dry++) {
       // By a COLD of 4 * (dry + 1) it TICKLES 1 at that DRY, and none at one more.
-      SneezeLights y = told("dry 9;sneezer 5 cold " + (4 * dry + 4) + " tickle 29");
-      check.due("20 as dry as " + dry, y.driest(2, 1), dry);
+      for (int is = 0; is <= 9; is++) {
+        SneezeLights y = told("dry " + is + ";sneezer 5 cold " + (4 * dry + 4) + " tickle 29");
+        check.due("20 as dry as " + dry + ", from " + is, y.driest(2, 1), dry);
+      }
     }
     check.due("20 not even 0", told("dry 9;sneezer 5 cold 3 tickle 29").driest(2, 1), Check.NONE);
   }
@@ -147,6 +152,88 @@ public final class BestEdgesTest {
     x.set(7, 2, 0);
     check.due("23 the first HOUSE", x.open(2), 0);
     seatsOfAChild();
+  }
+
+  private static int readAhead(SneezeLights x, int n) {
+    int all = 0;
+    for (int h = 0; h < 12; h++) {
+      all += x.then(h, n, 1);
+    }
+    return all;
+  }
+
+  /** Streets in which one is best as it is: that is tried, too. */
+  private static void whatItIsAlready() {
+    String[] winters = {"sneezer 6 cold 95", "baron 3 cold 89", "child 3", "", "bishop 5;babe 5", "babe 4"};
+    int[] minutes = {12, 17, 5, 0, 26, 11};
+    for (int kind = 0; kind < 6; kind++) {
+      if (kind != 3) {
+        check.due("19 as it is: " + winters[kind], told(winters[kind]).kind(0, minutes[kind]), kind);
+      }
+    }
+    for (int kind = 1; kind < 6; kind++) {
+      SneezeLights x = told("sneezer 6 cold 95");
+      int as = readAhead(x, 12);
+      x.turn(0, kind);
+      check.holds("19 a SNEEZER lets more be READ than " + kind, readAhead(x, 12) < as);
+    }
+    SneezeLights x = told("sneezer 4 cold 60 tickle 30");
+    for (int h = 0; h < 12; h++) {
+      x.house(h, 1, h >= 5 && h <= 7 ? 1 : 0);
+    }
+    check.due("18 as it is", x.seat(0, 3), 9);
+    x.set(0, 1, 8);
+    x.set(0, 2, 0);
+    check.due("18 the lesser of the two", x.seat(0, 3), 9);
+  }
+
+  /** A DOCTOR lights nothing; but it goes off at TICKLE 99, and gives the cold. */
+  private static void aDoctor() {
+    SneezeLights x = told("sneezer 3 tickle 99;doctor 3");
+    int without = readAhead(x, 60);
+    x.set(1, 4, 99);
+    check.holds("17 more is READ by its cold", readAhead(x, 60) > without);
+    x.set(1, 4, 0);
+    check.due("17 a feather for the DOCTOR", x.feather(60), 1);
+    check.due("17 too early for it", x.feather(2), 0);
+    // It gives its cold once only, in time for what the others light.
+    x = told("doctor 11 tickle 98;child 9;child 11 south tickle 80");
+    int[] read = new int[6];
+    for (int kind = 0; kind < 6; kind++) {
+      x.turn(0, kind);
+      read[kind] = readAhead(x, 33);
+    }
+    for (int kind = 0; kind < 6; kind++) {
+      check.holds("19 a DOCTOR lets more be READ than " + kind, kind < 3 ? read[kind] < read[3] : read[kind] <= read[3]);
+      x.turn(0, kind);
+      check.due("19 best as a DOCTOR, from " + kind, x.kind(0, 33), 3);
+    }
+    x = told("sneezer 9;doctor 3 cold 99;babe 8 cold 60;sneezer 5 cold 0");
+    check.due("22 a DOCTOR's cold is not dear", x.dear(60), dearest(x, 60));
+  }
+
+  private static int dearest(SneezeLights x, int n) {
+    int dearest = 0;
+    int least = Integer.MAX_VALUE;
+    for (int i = 0; i < x.count(0); i++) {
+      int was = x.set(i, 3, 0);
+      int read = readAhead(x, n);
+      x.set(i, 3, was);
+      if (read < least) {
+        least = read;
+        dearest = i;
+      }
+    }
+    return dearest;
+  }
+
+  /** Whose COLD is 0 already is asked for as well as the others. */
+  private static void theFirstHasNoCold() {
+    SneezeLights x = told("sneezer 2 cold 0;sneezer 5 cold 60;doctor 8");
+    check.due("22 no COLD is dear in 2", x.dear(2), 0);
+    check.due("22 the second's in 60", x.dear(60), 1);
+    x = told("sneezer 11;sneezer 2 cold 0;sneezer 0 south");
+    check.due("22 they light nothing", x.dear(60), 0);
   }
 
   /** With one BOOK open a CHILD has two seats for it, one at each end of the street: the lesser is told. */

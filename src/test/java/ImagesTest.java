@@ -98,6 +98,8 @@ public final class ImagesTest {
     check.due("36 SNEEZERS", x.count(0), 2);
     check.due("36 bytes", x.count(1), 3);
     check.due("36 LAMPS", x.count(2), 3);
+    x.house(4, 1, 0);
+    check.due("36 LAMPS, with a BOOK shut", x.count(2), 3);
     check.due("36 GONE OFF", x.count(3), 10008);
     check.due("36 what -1", x.count(-1), Check.BEYOND);
     check.due("36 what 4", x.count(4), Check.BEYOND);

@@ -359,6 +359,11 @@ public final class MinuteEdgesTest {
 
   /** "In how many MINUTES (1 to 200) one has GONE OFF next." (In 200 and 201: MinutesTest.) */
   private static void goesAtOnceAndNever() {
+    // It has what it HOLDS now, but the LAMP is out when that is asked: then it HOLDS 90, and TICKLES 1 a MINUTE.
+    SneezeLights bishop = one(4, 5, 0, 85);
+    bishop.house(0, 0, 1);
+    check.due("5 it has what it HOLDS", bishop.now(4), 1);
+    check.due("15 but not when that is asked", bishop.goes(0), 5);
     check.due("15 in 1", one(0, 5, 0, 30).goes(0), 1);
     check.due("15 in 1 by what it tickles", one(0, 5, 12, 29).goes(0), 1);
     check.due("15 never", one(0, 5, 0, 29).goes(0), Check.NONE);

@@ -76,6 +76,9 @@ public final class SneezersTest {
     dueOfEach(x, 6, 9, 4, 12, 0, 5, 12);
     x.house(5, 0, 1);
     dueOfEach(x, 6, 9, 4, 12, 0, 5, 24);
+    // A LAMP burns whether the BOOK is open or shut.
+    x.house(5, 1, 0);
+    dueOfEach(x, 6, 9, 4, 12, 0, 5, 24);
   }
 
   private static void holds() {
@@ -85,6 +88,11 @@ public final class SneezersTest {
       x.house(h, 0, 1 + 8 * h);
       dueOfEach(x, 7, 30, 90, 20, 99, 90 - 5 * (h + 1), 20);
     }
+    // A LAMP burns whether the BOOK is open or shut.
+    for (int h = 0; h < 12; h++) {
+      x.house(h, 1, 0);
+    }
+    dueOfEach(x, 7, 30, 90, 20, 99, 30, 20);
   }
 
   private static void blows() {
