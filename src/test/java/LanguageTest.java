@@ -32,6 +32,9 @@ public final class LanguageTest {
     "\\bpublic static\\b", "\\bprotected\\b", "\\bThread\\b", "\\bRandom\\b", "\\bnanoTime\\b", "\\bcurrentTimeMillis\\b",
   };
 
+  private static final Set<Class<?>> CONSTANTS = Set.of(int.class, long.class, boolean.class, char.class, String.class,
+      int[].class, long[].class, char[].class, byte[].class);
+
   public static void main(String[] args) throws IOException {
     face();
     members();
@@ -90,6 +93,7 @@ public final class LanguageTest {
         boolean isStatic = Modifier.isStatic(f.getModifiers());
         fields += isStatic ? 0 : 1;
         check.holds(f + " is final if it is static", !isStatic || Modifier.isFinal(f.getModifiers()));
+        check.holds(f + " is a constant if it is static", !isStatic || CONSTANTS.contains(f.getType()));
         check.holds(f + " is private", c != SneezeLights.class || Modifier.isPrivate(f.getModifiers()));
       }
       check.holds(c + " has twenty fields at most", fields <= 20);
